@@ -747,7 +747,6 @@ public final class Nightjar {
         void find(Lines lines, int gap) {
             number = 0;
             for (int i = 0; i < lines.number; i++) {
-                nexts.put(i, NONE);
                 sessionOf.put(i, NONE);
                 if (lines.keys.at(i) >= 0) {
                     int ahead = lines.joined(i, gap);

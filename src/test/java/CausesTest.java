@@ -8,9 +8,11 @@ final class CausesTest {
         causesAreRanked();
         equalScoresGoByNumber();
         scoresAreCut();
+        aScoreOfOne();
         keysMakeScenes();
         linesOfNoneAreTheRest();
         withoutARest();
+        theFirstTemplateHasCauses();
         causesRefuse();
         becauseTells();
         becauseOfTheFirstCause();
@@ -96,6 +98,19 @@ final class CausesTest {
         tells(close, 1, 0, 0, 2, 4, 95);
     }
 
+    private static void aScoreOfOne() {
+        // HITS 16 of 21, REST 19 of 25: 761 - 760.
+        int[][] rows = new int[46][];
+        for (int i = 0; i < rows.length; i++) {
+            boolean isEffect = i > 0 && i <= 21;
+            boolean isBehind = i <= 16 || i > 21 && i <= 40;
+            rows[i] = new int[] {0, isBehind ? 0 : isEffect ? 1 : 2, i == 0 ? 10 : isEffect ? 11 : 12};
+        }
+        Nightjar x = rows(rows);
+        CHECK.same("causes with a SCORE of 1", 1, x.causes(1));
+        tells(x, 1, 0, 0, 16, 19, 1);
+    }
+
     private static void keysMakeScenes() {
         Nightjar x = new Nightjar();
         Logs.add(x, 0, 0, 0, 1, 50);
@@ -121,6 +136,25 @@ final class CausesTest {
         CHECK.same("causes of the last template", 19, x.causes(19));
         tells(x, 19, 0, 18, 1, 1, 1000 - 1000 / 21);
         tells(x, 19, 18, 0, 1, 19, 1000 - 19000 / 21);
+        for (int cause = 0; cause < 19; cause++) {
+            CHECK.same("cause " + cause + " of the last template", 18 - cause, x.cause(19, cause, 0));
+        }
+        // A line behind one of none has nothing that could be a cause.
+        Logs.add(x, 19, 1, 0, 19, 500);
+        x.learn(1);
+        CHECK.same("causes of the last template then", 10, x.causes(19));
+        tells(x, 19, 9, 9, 1, 10, 500 - 10000 / 21);
+        CHECK.same("because of a line of none", -1, x.because(22));
+        CHECK.same("because for a line of none", -1, x.because(20));
+    }
+
+    private static void theFirstTemplateHasCauses() {
+        Nightjar x = rows(new int[][] {{0, 0, 10}, {100, 1, 11}, {100, 1, 12}, {101, 1, 10}});
+        CHECK.same("causes of template 0", 1, x.causes(0));
+        tells(x, 0, 0, 2, 1, 0, 500);
+        CHECK.same("because of line 3", 2, x.because(3));
+        Nightjar first = rows(new int[][] {{0, 0, 10}, {1, 0, 11}});
+        CHECK.same("because of line 0", 0, first.because(1));
     }
 
     private static void withoutARest() {

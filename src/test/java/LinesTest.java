@@ -257,12 +257,12 @@ final class LinesTest {
 
     private static void ofLineTellsTheScene() {
         Nightjar x = new Nightjar();
-        Logs.add(x, 0, 0, 0, 1, 10);
+        Logs.add(x, 0, 0, 0, 1, 0);
         Logs.add(x, 10, 1, 0, 1, 11);
-        Logs.add(x, 20, 2, 0, 1, 10);
+        Logs.add(x, 20, 2, 0, 1, 0);
         Logs.add(x, 20, 0, 0, 7, 7, 7);
-        Logs.add(x, 20, 0, 0, 1, 10);
-        Logs.add(x, 21, 0, 0, 1, 10);
+        Logs.add(x, 20, 0, 0, 1, 0);
+        Logs.add(x, 21, 0, 0, 1, 0);
         CHECK.same("a scene without learned lines", 0, x.ofLine(4, 8));
         x.learn(4);
         CHECK.same("a scene by the key, BACK just reached", 1, x.ofLine(2, 8));

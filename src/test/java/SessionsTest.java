@@ -64,6 +64,10 @@ final class SessionsTest {
         x.learn(6);
         CHECK.same("sessions", 3, x.many(3));
         CHECK.same("broken ones", 2, x.many(4));
+        CHECK.same("broken ones, the first session among them", 3, fourSessions().many(4));
+        // Settings that change nothing here must not be counted twice.
+        x.set(1, 29);
+        x.set(1, 30);
         int[] worst = {0, 2, 1};
         for (int s = 0; s < 3; s++) {
             CHECK.same("lines of level 3 in session " + s, worst[s], x.ofSession(s, 4));
@@ -72,7 +76,15 @@ final class SessionsTest {
 
     /** Keys 50, 51 and 0; paths 0 1 0, 0 1 and 0 1, then 0 alone. */
     private static Nightjar fourSessions() {
+        Nightjar x = eightSessions();
+        // Nothing may be left of the sessions that there were before.
+        x.set(1, 30);
+        return x;
+    }
+
+    private static Nightjar eightSessions() {
         Nightjar x = new Nightjar();
+        x.set(1, 0);
         Logs.add(x, 1, 0, 0, 1, 50);
         Logs.add(x, 2, 0, 3, 1, 51);
         Logs.add(x, 3, 0, 0, 50, 2, 3);
@@ -87,6 +99,7 @@ final class SessionsTest {
 
     private static void ofSessionTells() {
         Nightjar x = fourSessions();
+        CHECK.same("sessions with a GAP of 0", 8, eightSessions().many(3));
         int[][] due = {
             {50, 1, 6, 3, 1, 2, 1}, {51, 2, 5, 2, 1, 2, 2}, {0, 4, 7, 2, 1, 2, 2}, {51, 99, 99, 1, 0, 1, 1},
         };
@@ -116,10 +129,12 @@ final class SessionsTest {
         Logs.add(x, 0, 0, 0, 51, 2, 3);
         Logs.add(x, 0, 0, 0, 50, 2, 3);
         Logs.add(x, 0, 0, 0, 1, 51);
-        x.learn(4);
+        Logs.add(x, 0, 0, 0, 52, 2, 3);
+        x.learn(5);
         CHECK.same("sessions with the path 0 1", 1, x.ofSession(0, 6));
         CHECK.same("sessions with the path 1 0", 1, x.ofSession(1, 6));
         CHECK.same("templates of the path 1 0", 2, x.ofSession(1, 5));
+        CHECK.same("templates of the path 1", 1, x.ofSession(2, 5));
     }
 
     private static void inSessionTells() {

@@ -10,6 +10,7 @@ final class TemplatesTest {
         holesDoNotCount();
         emptyLines();
         twentyAreTheMost();
+        eightPlacesEach();
         ofTemplateTells();
         slotTells();
         valuesCounts();
@@ -107,6 +108,21 @@ final class TemplatesTest {
         CHECK.same("a line of none is in a scene", 10, x.ofLine(21, 8));
     }
 
+    /** What happens to a template with the most places leaves the next one alone. */
+    private static void eightPlacesEach() {
+        Nightjar x = new Nightjar();
+        Logs.add(x, 0, 0, 0, 1, 2, 3, 4, 5, 6, 7, 8);
+        Logs.add(x, 0, 0, 0, 51, 52, 53, 54, 55, 56, 57, 58);
+        Logs.add(x, 0, 0, 0, 1, 2, 3, 4, 5, 6, 7, 9);
+        Logs.add(x, 0, 0, 0, 59, 52, 53, 54, 55, 56, 57, 58);
+        x.learn(3);
+        CHECK.same("slot(1, 0) once template 0 has a hole", 51, x.slot(1, 0));
+        x.learn(1);
+        CHECK.same("slot(1, 0) as a hole", -1, x.slot(1, 0));
+        CHECK.same("holes of template 0", 1, x.ofTemplate(0, 1));
+        CHECK.fails("values(0, 1)", INDEX, () -> x.values(0, 1));
+    }
+
     private static Nightjar threeTemplates() {
         Nightjar x = new Nightjar();
         Logs.add(x, 0, 0, 1, 5);
@@ -130,6 +146,8 @@ final class TemplatesTest {
         CHECK.same("the greatest level with one more line", 3, x.ofTemplate(1, 4));
         CHECK.same("lines with one more", 3, x.ofTemplate(1, 2));
         CHECK.same("the first line of template 2", 3, x.ofTemplate(2, 3));
+        CHECK.same("the greatest level of lines of level 0", 0, longTemplate().ofTemplate(0, 4));
+        CHECK.same("holes at the first place and the last one", 2, outerHoles().ofTemplate(0, 1));
         for (int template : new int[] {-1, 3, 20, Integer.MAX_VALUE, Integer.MIN_VALUE}) {
             CHECK.refuses("ofTemplate(" + template + ", 0)", INDEX, TemplatesTest::threeTemplates,
                 y -> y.ofTemplate(template, 0));
@@ -148,6 +166,14 @@ final class TemplatesTest {
         Logs.add(x, 0, 0, 0, 1, 9, 3, 0, 5, 6, 9, 999);
         Logs.add(x, 0, 0, 0, 4);
         x.learn(3);
+        return x;
+    }
+
+    private static Nightjar outerHoles() {
+        Nightjar x = new Nightjar();
+        Logs.add(x, 0, 0, 0, 1, 2, 3, 4);
+        Logs.add(x, 0, 0, 0, 9, 2, 3, 9);
+        x.learn(2);
         return x;
     }
 

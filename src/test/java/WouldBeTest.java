@@ -54,7 +54,7 @@ final class WouldBeTest {
         Nightjar x = new Nightjar();
         Logs.add(x, 0, 0, 0, 1, 50);
         Logs.add(x, 10, 0, 0, 1, 50);
-        Logs.add(x, 15, 0, 0, 1, 51);
+        Logs.add(x, 15, 0, 0, 1, 0);
         Logs.add(x, 30, 0, 0, 1, 50);
         Logs.add(x, 30, 0, 0, 1, 50);
         Logs.add(x, 9000, 0, 0, 1, 52);
