@@ -1,4 +1,5 @@
 import java.lang.reflect.Constructor;
+import java.lang.reflect.Field;
 import java.lang.reflect.Method;
 import java.lang.reflect.Modifier;
 import java.util.Set;
@@ -62,7 +63,15 @@ final class FaceTest {
         Constructor<?>[] made = Nightjar.class.getConstructors();
         CHECK.same("how many public constructors", 1, made.length);
         CHECK.same("arguments of the constructor", 0, made[0].getParameterCount());
+        CHECK.same("constructors in all", 1, Nightjar.class.getDeclaredConstructors().length);
         CHECK.same("public fields", 0, Nightjar.class.getFields().length);
+        for (Field f : Nightjar.class.getDeclaredFields()) {
+            CHECK.same(f.getName() + " is private", 1, Modifier.isPrivate(f.getModifiers()) ? 1 : 0);
+        }
+        for (Class<?> inside : Nightjar.class.getDeclaredClasses()) {
+            CHECK.same(inside.getName() + " is static", 1, Modifier.isStatic(inside.getModifiers()) ? 1 : 0);
+            CHECK.same(inside.getName() + " is public", 0, Modifier.isPublic(inside.getModifiers()) ? 1 : 0);
+        }
         CHECK.same("the class is final", 1, Modifier.isFinal(Nightjar.class.getModifiers()) ? 1 : 0);
     }
 

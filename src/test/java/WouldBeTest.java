@@ -106,14 +106,19 @@ final class WouldBeTest {
         CHECK.fails("wouldBe of a learned line of none", STATE, () -> x.wouldBe(20));
     }
 
-    private static void nothingIsChanged() {
+    private static Nightjar halfLearnedAndAsked() {
         Nightjar x = halfLearned();
         x.templatesWith(0);
         x.templatesWith(100);
         x.sessionsWith(0);
         x.wouldBe(2);
         x.wouldBe(3);
-        CHECK.same("what stands behind these calls", Logs.picture(halfLearned()), Logs.picture(x));
+        return x;
+    }
+
+    private static void nothingIsChanged() {
+        CHECK.same("what stands behind these calls", Logs.picture(WouldBeTest::halfLearned),
+            Logs.picture(WouldBeTest::halfLearnedAndAsked));
     }
 
     private static long sum(int... numbers) {
