@@ -55,6 +55,7 @@ final class EdgesOfCausesTest {
         CHECK.range("nothing learned", INDEX, 0, -1, EdgesOfCausesTest::notLearned, (x, n) -> x.count(n, 0));
         CHECK.range("some", INDEX, 0, 2, Logs::some, (x, n) -> x.count(n, 0));
         CHECK.range("all", INDEX, 0, 19, Logs::most, (x, n) -> x.count(n, Integer.MAX_VALUE));
+        CHECK.range("all but one forgotten", INDEX, 0, 0, Logs::mostButForgotten, (x, n) -> x.count(n, 0));
         CHECK.range("no such window either", INDEX, 0, -1, Nightjar::new, (x, n) -> x.count(n, -1));
         CHECK.refuses("template 3, window -1", INDEX, Logs::some, x -> x.count(3, -1));
         CHECK.refuses("template -1, window -1", INDEX, Logs::some, x -> x.count(-1, -1));
@@ -110,6 +111,17 @@ final class EdgesOfCausesTest {
         tellsSpike(x, 21, 100, 7, 4);
     }
 
+    /** There were 23 spikes with WIDTH 10; with WIDTH 1000 there is one of 60 lines alone. */
+    private static Nightjar fewerSpikes() {
+        Nightjar x = new Nightjar();
+        for (int i = 0; i < 69; i++) {
+            Logs.add(x, i / 3 * 50, 0, 0, 1);
+        }
+        x.learn(70);
+        x.set(2, 1000);
+        return x;
+    }
+
     private static void spikeArguments() {
         CHECK.about("19: Throws IndexOutOfBoundsException if there is no such pair");
         CHECK.range("no line yet", INDEX, 0, -1, Nightjar::new, (x, n) -> x.spike(n, 0));
@@ -117,6 +129,8 @@ final class EdgesOfCausesTest {
         CHECK.range("lines, but no spike", INDEX, 0, -1, Logs::full, (x, n) -> x.spike(n, 0));
         CHECK.range("some", INDEX, 0, 0, Logs::some, (x, n) -> x.spike(n, 2));
         CHECK.range("all", INDEX, 0, 22, Logs::most, (x, n) -> x.spike(n, 1));
+        CHECK.range("once there were more", INDEX, 0, 0, EdgesOfCausesTest::fewerSpikes, (x, n) -> x.spike(n, 0));
+        CHECK.range("all but one forgotten", INDEX, 0, -1, Logs::mostButForgotten, (x, n) -> x.spike(n, 0));
         CHECK.range("no such what either", INDEX, 0, -1, Nightjar::new, (x, n) -> x.spike(n, 3));
         CHECK.refuses("spike 1, what -1", INDEX, Logs::some, x -> x.spike(1, -1));
         CHECK.refuses("spike -1, what 3", INDEX, Logs::some, x -> x.spike(-1, 3));
@@ -156,6 +170,7 @@ final class EdgesOfCausesTest {
         CHECK.range("one", INDEX, 0, 0, EdgesOfCausesTest::learnedAll, (x, n) -> x.causes(n));
         CHECK.range("some", INDEX, 0, 2, Logs::some, (x, n) -> x.causes(n));
         CHECK.range("all", INDEX, 0, 19, Logs::most, (x, n) -> x.causes(n));
+        CHECK.range("all but one forgotten", INDEX, 0, 0, Logs::mostButForgotten, (x, n) -> x.causes(n));
     }
 
     private static void tellsCause(Nightjar x, int template, int cause, int... due) {
@@ -174,6 +189,19 @@ final class EdgesOfCausesTest {
         tellsCause(x, 19, 18, 0, 1, 18, 1000 - 18000 / 19);
     }
 
+    private static Nightjar forgotten() {
+        Nightjar x = nineteen();
+        x.forget();
+        x.learn(1);
+        return x;
+    }
+
+    private static Nightjar shortBack() {
+        Nightjar x = nineteen();
+        x.set(3, 0);
+        return x;
+    }
+
     private static void causeArguments() {
         CHECK.about("21: Throws IndexOutOfBoundsException if there is no such TEMPLATE");
         CHECK.range("no line yet", INDEX, 0, -1, Nightjar::new, (x, n) -> x.cause(n, 0, 0));
@@ -189,6 +217,9 @@ final class EdgesOfCausesTest {
             CHECK.range("causes of template " + t, INDEX, 0, t - 1, EdgesOfCausesTest::nineteen,
                 (x, n) -> x.cause(t, n, 3));
             CHECK.refuses("no such cause, what 4", INDEX, EdgesOfCausesTest::nineteen, x -> x.cause(t, t, 4));
+            CHECK.refuses("a cause that was forgotten", INDEX, EdgesOfCausesTest::forgotten, x -> x.cause(t, 0, 0));
+            CHECK.refuses("a cause that BACK 0 leaves out", INDEX, EdgesOfCausesTest::shortBack,
+                x -> x.cause(t, 0, 0));
             CHECK.refuses("cause -1, what -1", INDEX, EdgesOfCausesTest::nineteen, x -> x.cause(t, -1, -1));
         }
         CHECK.about("21: Throws IllegalArgumentException if what is not 0 to 3");

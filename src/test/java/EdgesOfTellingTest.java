@@ -149,6 +149,11 @@ final class EdgesOfTellingTest {
         for (int session = 0; session < due.length; session++) {
             CHECK.same("sessions with the path of " + session, due[session], x.ofSession(session, 6));
         }
+        Nightjar fewer = keyed(0, new int[] {0, 7}, new int[] {0, 8}, new int[] {1, 7});
+        CHECK.same("sessions of one line with GAP 0", 3, fewer.ofSession(1, 6));
+        fewer.set(1, 1);
+        CHECK.same("sessions of one line with GAP 1", 1, fewer.ofSession(1, 6));
+        CHECK.same("sessions of two lines with GAP 1", 1, fewer.ofSession(0, 6));
     }
 
     private static void windows() {

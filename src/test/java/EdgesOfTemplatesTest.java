@@ -57,6 +57,11 @@ final class EdgesOfTemplatesTest {
         all.learn(70);
         tells(all, 0, 2, 0, 70, 0, 0);
         tells(Logs.most(), 19, 2, 1, 3, 57, 3);
+        Nightjar few = Logs.some();
+        tells(few, 0, 2, 1, 3, 0, 3);
+        few.learn(1);
+        tells(few, 0, 2, 1, 4, 0, 3);
+        tells(few, 2, 0, 0, 1, 4, 2);
         for (int level = 0; level <= 3; level++) {
             Nightjar one = new Nightjar();
             Logs.add(one, 0, 0, level, 1);
@@ -74,6 +79,7 @@ final class EdgesOfTemplatesTest {
         CHECK.range("nothing learned", INDEX, 0, -1, EdgesOfTemplatesTest::notLearned, (x, n) -> x.ofTemplate(n, 0));
         CHECK.range("some", INDEX, 0, 2, Logs::some, (x, n) -> x.ofTemplate(n, 3));
         CHECK.range("all", INDEX, 0, 19, Logs::most, (x, n) -> x.ofTemplate(n, 4));
+        CHECK.range("all but one forgotten", INDEX, 0, 0, Logs::mostButForgotten, (x, n) -> x.ofTemplate(n, 0));
         CHECK.range("no such what either", INDEX, 0, -1, Nightjar::new, (x, n) -> x.ofTemplate(n, 5));
         CHECK.refuses("template 3, what -1", INDEX, Logs::some, x -> x.ofTemplate(3, -1));
         CHECK.refuses("template -1, what 5", INDEX, Logs::some, x -> x.ofTemplate(-1, 5));
@@ -125,6 +131,7 @@ final class EdgesOfTemplatesTest {
             return x;
         }, (x, n) -> x.slot(n, 0));
         CHECK.range("all", INDEX, 0, 19, Logs::most, (x, n) -> x.slot(n, 1));
+        CHECK.range("all but one forgotten", INDEX, 0, 0, Logs::mostButForgotten, (x, n) -> x.slot(n, 1));
         CHECK.about("11: or it has no such PLACE");
         for (int size = 0; size <= 8; size++) {
             int places = size;
@@ -183,6 +190,9 @@ final class EdgesOfTemplatesTest {
         CHECK.range("nothing learned", INDEX, 0, -1, EdgesOfTemplatesTest::notLearned, (x, n) -> x.values(n, 0));
         CHECK.range("some", INDEX, 0, 0, Logs::some, (x, n) -> x.values(n, 0));
         CHECK.range("all", INDEX, 0, 19, Logs::most, (x, n) -> x.values(n, 0));
+        CHECK.range("all but one forgotten", INDEX, 0, -1, Logs::mostButForgotten, (x, n) -> x.values(n, 0));
+        CHECK.refuses("template 1, forgotten", INDEX, Logs::mostButForgotten, x -> x.values(1, 0));
+        CHECK.refuses("template 19, forgotten", INDEX, Logs::mostButForgotten, x -> x.values(19, 0));
         CHECK.about("12: or it has no such HOLE");
         for (int places = 0; places <= 8; places++) {
             int size = places;
@@ -229,6 +239,7 @@ final class EdgesOfTemplatesTest {
         CHECK.range("nothing learned", INDEX, 0, -1, EdgesOfTemplatesTest::notLearned, (x, n) -> x.alike(69, n));
         CHECK.range("some", INDEX, 0, 2, Logs::some, (x, n) -> x.alike(5, n));
         CHECK.range("all", INDEX, 0, 19, Logs::most, (x, n) -> x.alike(0, n));
+        CHECK.range("all but one forgotten", INDEX, 0, 0, Logs::mostButForgotten, (x, n) -> x.alike(69, n));
         CHECK.refuses("neither", INDEX, Logs::some, x -> x.alike(6, 3));
     }
 
@@ -251,6 +262,18 @@ final class EdgesOfTemplatesTest {
             Logs.add(x, i < 10 ? 0 : i < 69 ? 999 * (i / 7) : 9999, 0, 3, 1, i < 69 ? 999 : 0);
         }
         x.learn(70);
+        return x;
+    }
+
+    /** There were 70 sessions with GAP 0; now there is one of 69 lines, and one of a line. */
+    private static Nightjar fewerSessions() {
+        Nightjar x = new Nightjar();
+        x.set(1, 0);
+        for (int i = 0; i < 70; i++) {
+            Logs.add(x, i, 0, 0, 1, i < 69 ? 5 : 6);
+        }
+        x.learn(70);
+        x.set(1, 1000);
         return x;
     }
 
@@ -286,6 +309,7 @@ final class EdgesOfTemplatesTest {
         CHECK.range("lines without keys", INDEX, 0, -1, Logs::full, (x, n) -> x.ofSession(n, 0));
         CHECK.range("some", INDEX, 0, 1, Logs::some, (x, n) -> x.ofSession(n, 6));
         CHECK.range("all", INDEX, 0, 69, Logs::most, (x, n) -> x.ofSession(n, 4));
+        CHECK.range("once there were more", INDEX, 0, 1, EdgesOfTemplatesTest::fewerSessions, (x, n) -> x.ofSession(n, 3));
         CHECK.range("no such what either", INDEX, 0, -1, Nightjar::new, (x, n) -> x.ofSession(n, 7));
         CHECK.refuses("session 2, what -1", INDEX, Logs::some, x -> x.ofSession(2, -1));
         CHECK.refuses("session -1, what 7", INDEX, Logs::some, x -> x.ofSession(-1, 7));
@@ -314,6 +338,7 @@ final class EdgesOfTemplatesTest {
         CHECK.range("lines without keys", INDEX, 0, -1, Logs::full, (x, n) -> x.inSession(n, 0));
         CHECK.range("some", INDEX, 0, 1, Logs::some, (x, n) -> x.inSession(n, 0));
         CHECK.range("all", INDEX, 0, 69, Logs::most, (x, n) -> x.inSession(n, 0));
+        CHECK.range("once there were more", INDEX, 0, 1, EdgesOfTemplatesTest::fewerSessions, (x, n) -> x.inSession(n, 0));
         CHECK.about("15: or place");
         CHECK.range("two lines", INDEX, 0, 1, Logs::some, (x, n) -> x.inSession(0, n));
         CHECK.range("one line", INDEX, 0, 0, Logs::some, (x, n) -> x.inSession(1, n));

@@ -64,6 +64,14 @@ final class Logs {
         return x;
     }
 
+    /** The same lines, but only the first one is learned, and so there is only its template. */
+    static Nightjar mostButForgotten() {
+        Nightjar x = most();
+        x.forget();
+        x.learn(1);
+        return x;
+    }
+
     /** All that can be asked of such an object now and, if it goes on, later. */
     static String picture(Supplier<Nightjar> made) {
         Asker asker = new Asker(made);
